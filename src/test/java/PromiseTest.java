@@ -749,6 +749,19 @@ public final class PromiseTest {
             due("tell", r.tell(n, 2), 1);
         }
         allChosen(r, nodes, new int[] {2, 2, 2, 2, 2, -16, 2});
+        chosenByOneNeed();
+    }
+
+    /** Each class as the one need, by both rules. */
+    private static void chosenByOneNeed() {
+        DefaultRules r = new DefaultRules();
+        int[] nodes = new int[8];
+        for (int f = 0; f < 8; f++) {
+            nodes[f] = needing(r, f);
+        }
+        allChosen(r, nodes, new int[] {-12, -12, -12, 2, 2, 2, 4, 4});
+        r.wider(true);
+        allChosen(r, nodes, new int[] {2, 2, 2, 2, 2, 2, 4, 4});
     }
 
     private static void allChosen(DefaultRules r, int[] nodes, int[] want) {
