@@ -41,8 +41,6 @@ public final class DefaultRules {
     private static final int PLUS = 0;
     private static final int MINUS = 1;
     private static final int TIMES = 2;
-    private static final int BY = 3;
-    private static final int QUOTIENT = 4;
     private static final int REST = 5;
     private static final int LESSER = 6;
     private static final int GREATER = 7;
@@ -249,8 +247,7 @@ public final class DefaultRules {
         if (type == NO_TYPE) {
             return AS_TOLD;
         }
-        int lacking = types.lacking(type, nodes.needed[leader]);
-        return lacking == 0 ? AS_TOLD : Integer.numberOfTrailingZeros(lacking);
+        return families.leastOf(types.lacking(type, nodes.needed[leader]));
     }
 
     public long value(int x) throws ArithmeticException {
@@ -391,6 +388,16 @@ public final class DefaultRules {
             }
             count++;
             return added;
+        }
+
+        /** The least class of a set, or AS_TOLD if it is empty. */
+        int leastOf(int set) {
+            for (int i = 0; i < count; i++) {
+                if ((set & (1 << i)) != 0) {
+                    return i;
+                }
+            }
+            return AS_TOLD;
         }
 
         int withAllSupers(int set) {
@@ -736,6 +743,7 @@ public final class DefaultRules {
                 case TIMES:
                     return (a == 0 && infinite(b)) || (infinite(a) && b == 0);
                 default:
+                    // By: whole numbers alone have a quotient and a rest.
                     return bothInfinite || (a == 0 && b == 0);
             }
         }
