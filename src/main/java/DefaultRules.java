@@ -674,13 +674,7 @@ public final class DefaultRules {
             real[n] = base[n] == FLOAT ? (float) v : v;
         }
 
-        private void putOdd(int n) {
-            odd[n] = true;
-            real[n] = 0.0;
-        }
-
-        private void copy(int n, int from) {
-            exact[n] = exact[from];
+        private void copyReal(int n, int from) {
             real[n] = real[from];
             odd[n] = odd[from];
         }
@@ -714,11 +708,11 @@ public final class DefaultRules {
         /** Always true: floats divide by 0. */
         private boolean twoReal(int n, int kind, int a, int b) {
             if (kind == LESSER) {
-                copy(n, atMost(a, b) ? a : b);
+                copyReal(n, atMost(a, b) ? a : b);
             } else if (kind == GREATER) {
-                copy(n, atMost(a, b) ? b : a);
+                copyReal(n, atMost(a, b) ? b : a);
             } else if (odd[a] || odd[b] || comesToNoNumber(kind, real[a], real[b])) {
-                putOdd(n);
+                odd[n] = true;
             } else if (base[n] == FLOAT) {
                 odd[n] = false;
                 real[n] = floatsOf(kind, (float) real[a], (float) real[b]);
@@ -782,7 +776,7 @@ public final class DefaultRules {
             if (isWhole(n)) {
                 putLong(n, oneWhole(kind, exact[a]));
             } else if (odd[a]) {
-                putOdd(n);
+                odd[n] = true;
             } else {
                 putDouble(n, oneReal(kind, real[a]));
             }
@@ -827,7 +821,7 @@ public final class DefaultRules {
             } else if (isWhole(a)) {
                 putDouble(n, (double) exact[a]);
             } else if (odd[a]) {
-                putOdd(n);
+                odd[n] = true;
             } else {
                 putDouble(n, real[a]);
             }

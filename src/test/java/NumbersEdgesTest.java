@@ -208,6 +208,24 @@ public final class NumbersEdgesTest {
             Sheet.dueDouble(s, s.two(2, d, s.whole(2)), INFINITE);
             Sheet.dueDouble(s, s.two(2, d, s.whole(-2)), -INFINITE);
         });
+        Sheet.sentence("the greatest double, and less than 0, is not infinite yet", () -> {
+            DefaultRules r = new DefaultRules();
+            int power = Make.powerOfTwo(r, 1023, 4);
+            int last = r.two(3, r.two(3, power, Make.whole(r, 1 << 26, 4)), r.whole(1 << 26));
+            int max = r.two(0, power, r.two(1, power, last));
+            int minus = r.one(0, max);
+            int zero = r.two(1, last, last);
+            int[] nodes = {max, minus};
+            double[] numbers = {Double.MAX_VALUE, -Double.MAX_VALUE};
+            for (int i = 0; i < 2; i++) {
+                Sheet.dueDouble(r, r.two(2, nodes[i], zero), numbers[i] * 0.0);
+                for (int j = 0; j < 2; j++) {
+                    Sheet.dueDouble(r, r.two(0, nodes[i], nodes[j]), numbers[i] + numbers[j]);
+                    Sheet.dueDouble(r, r.two(1, nodes[i], nodes[j]), numbers[i] - numbers[j]);
+                    Sheet.dueDouble(r, r.two(3, nodes[i], nodes[j]), numbers[i] / numbers[j]);
+                }
+            }
+        });
         Sheet.sentence("in floats: too small is 0, or -0", () -> {
             DefaultRules r = new DefaultRules();
             int f = Make.powerOfHalf(r, 149, 3);
@@ -526,6 +544,18 @@ public final class NumbersEdgesTest {
             Sheet.due("turned to float", r.value(Make.told(r, r.turn(2, d), 3)), 0x7fc00000L);
             Sheet.due("turned to double", r.value(r.turn(2, f)), 0x7ff8000000000000L);
         });
+        Sheet.sentence("what is no number as a float may be one as a double", () -> {
+            DefaultRules r = new DefaultRules();
+            // 16777217 less 16777216 by itself: as a float that is 0 by 0.
+            int one = r.two(1, r.whole(16777217), r.whole(16777216));
+            dueAsTypeChanges(r, one, 3, 4);
+        });
+        Sheet.sentence("what is no number as a double may be one as a float", () -> {
+            DefaultRules r = new DefaultRules();
+            // 16777216 and 1 and 1, less 16777218: as a double 0, as a float -2.
+            int sum = r.two(0, r.two(0, r.whole(16777216), r.whole(1)), r.whole(1));
+            dueAsTypeChanges(r, r.two(1, sum, r.whole(16777218)), 4, 3);
+        });
         Sheet.sentence("(Bits of the double -0.0, and the long -2 to the 63, are the same number.)", () -> {
             DefaultRules r = new DefaultRules();
             int zero = Make.minusZero(r, 4);
@@ -536,5 +566,19 @@ public final class NumbersEdgesTest {
             Sheet.due("the least long", r.value(least), DefaultRules.NOTHING);
             Sheet.due("the least long has a value", r.compare(least, least), 1);
         });
+    }
+
+    /** x by itself and what comes of it: by one type no number, by the other 1, and back again. */
+    private static void dueAsTypeChanges(DefaultRules r, int x, int odd, int fine) {
+        int by = r.two(3, x, x);
+        int[] nodes = {by, r.one(1, by), r.two(0, by, r.part(0, 1)), r.two(6, by, by), r.turn(2, by)};
+        for (int type : new int[] {odd, fine, odd, fine}) {
+            r.list(-1);
+            r.list(type);
+            for (int n : nodes) {
+                Sheet.dueReal(r, type, n, type == odd ? NO_NUMBER : 1.0);
+            }
+            Sheet.due("compare", r.compare(by, nodes[1]), type == odd ? 3 : 1);
+        }
     }
 }
