@@ -4,6 +4,7 @@ import java.lang.reflect.Method;
 import java.lang.reflect.Modifier;
 import java.nio.file.Files;
 import java.nio.file.Path;
+import java.util.ArrayList;
 import java.util.Arrays;
 import java.util.List;
 import java.util.Set;
@@ -25,7 +26,8 @@ public final class FaceTest {
     private static final String[] BARRED = {
         "->", "::", "\\btry\\b", "\\bcatch\\b", "\\bfinally\\b", "\\bsynchronized\\b", "\\bassert\\b",
         "\\bDouble\\.", "\\bFloat\\.", "\\bMath\\.(?!max\\b|min\\b)", "Exact\\b", "\\bNaN\\b",
-        "\\bSystem\\.(?!arraycopy)", "\\bArrays\\.fill\\b", "\\bstatic\\s*\\{", "\\bstatic\\s+(?!final)\\w+\\s+\\w+\\s*[=;]",
+        "\\bSystem\\.(?!arraycopy)", "\\bArrays\\.(?!copyOf|fill\\b)", "\\bstatic\\s*\\{",
+        "\\bstatic\\s+(?!final)\\w+\\s+\\w+\\s*[=;]",
         "\\bstatic final (double|float)\\b", "\\bpackage\\s+\\w", "\\bObject\\b", "\\bstrictfp\\b"};
 
     private static int wrong = 0;
@@ -39,7 +41,12 @@ public final class FaceTest {
 
     public static void main(String[] args) throws Exception {
         checkFace();
-        checkSource(Files.readString(Path.of("src/main/java/DefaultRules.java")));
+        checkSizes();
+        String source = Files.readString(Path.of("src/main/java/DefaultRules.java"));
+        checkSource(source);
+        checkParts(source);
+        checkLengths(source.split("\n"), " ".repeat(4));
+        checkLengths(source.split("\n"), " ".repeat(8));
         System.out.println(wrong == 0 ? "the face is as due" : wrong + " faults");
         if (wrong != 0) {
             System.exit(1);
@@ -80,6 +87,49 @@ public final class FaceTest {
                 check(!names.contains(m.getName()), m + " bears the name of a public method");
             }
         }
+    }
+
+    /** Rule 11: parameters, classes, fields beside the constants. */
+    private static void checkSizes() {
+        List<Class<?>> all = new ArrayList<>(List.of(DefaultRules.class.getDeclaredClasses()));
+        all.add(DefaultRules.class);
+        check(all.size() <= 12, all.size() + " classes");
+        for (Class<?> each : all) {
+            int fields = 0;
+            for (Field f : each.getDeclaredFields()) {
+                boolean isStatic = Modifier.isStatic(f.getModifiers());
+                check(!isStatic || Modifier.isFinal(f.getModifiers()), f + " is static, but not final");
+                fields += isStatic ? 0 : 1;
+            }
+            check(fields <= 20, each + " has " + fields + " fields");
+            for (Method m : each.getDeclaredMethods()) {
+                check(m.getParameterCount() <= 7, m + " has too many parameters");
+            }
+        }
+    }
+
+    /** Rule 11: methods of some sixty lines; those of the outer class stand 4 deep, others 8. */
+    private static void checkLengths(String[] lines, String depth) {
+        int begin = -1;
+        for (int i = 0; i < lines.length; i++) {
+            if (lines[i].matches(depth + "\\w.*\\).*\\{")) {
+                begin = i;
+            } else if (begin >= 0 && lines[i].equals(depth + "}")) {
+                check(i - begin < 60, "a method too long, from line " + (begin + 1));
+                begin = -1;
+            }
+        }
+    }
+
+    /** "Ahead of the calls .. the interface says: ..". */
+    private static void checkParts(String source) {
+        checkOrder(source, "int wider(", "// ---- nodes\n", "int whole(");
+        checkOrder(source, "int fix(", "// ---- what comes\n", "int group(");
+    }
+
+    private static void checkOrder(String source, String first, String second, String third) {
+        int at = source.indexOf(second);
+        check(source.indexOf(first) < at && at < source.indexOf(third), second + " ahead of " + third);
     }
 
     private static String written(Method m) {

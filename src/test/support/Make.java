@@ -78,6 +78,16 @@ final class Make {
         return raised(r, part(r, 10, 1, type), part(r, 5, 1, type), power);
     }
 
+    /** x * by + more, of the type of x. */
+    static int sum(DefaultRules r, int x, int by, int more) {
+        return r.two(0, r.two(2, x, r.whole(by)), r.whole(more));
+    }
+
+    /** x * 2 to the power, or by one half to it if it is less than 0; x is of FLOAT or DOUBLE. */
+    static int scaled(DefaultRules r, int x, int power) {
+        return raised(r, x, power < 0 ? r.part(5, 1) : r.whole(2), Math.abs(power));
+    }
+
     private static int raised(DefaultRules r, int one, int base, int power) {
         int product = one;
         int square = base;
