@@ -316,8 +316,11 @@ public final class NumbersEdgesTest {
             Sheet.due("the least int as a long", r.value(r.one(1, r.whole(MIN))), -(long) MIN);
             Sheet.due("long", r.value(r.one(1, Make.leastLong(r))), Long.MIN_VALUE);
             Sheet.due("one more", r.value(r.one(1, r.two(0, Make.leastLong(r), r.whole(1)))), Long.MAX_VALUE);
-            Sheet.due("0", r.value(r.one(1, r.whole(0))), 0);
-            Sheet.due("5", r.value(r.one(1, r.whole(5))), 5);
+            for (int type = 1; type <= 2; type++) {
+                for (int v : new int[] {-2, -1, 0, 1, 5, MAX}) {
+                    Sheet.due("of " + v, r.value(r.one(1, Make.whole(r, v, type))), Math.abs(v));
+                }
+            }
         });
         Sheet.sentence("2 its sign: -1, 0, 1", () -> {
             DefaultRules r = new DefaultRules();
